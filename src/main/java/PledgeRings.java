@@ -611,6 +611,7 @@ public final class PledgeRings {
             return isPair(pair) ? sum[pair] : 0;
         }
 
+        /** Answers what a part of a debt costs that is released first; of no debt it is 0. */
         int costOfPart(Book book, int pair, int part) {
             int cost = 0;
             int left = part;
@@ -691,7 +692,7 @@ public final class PledgeRings {
             return party == EMPTY_PLACE ? NONE : party;
         }
 
-        /** Answers the debt from the party at a place to the next one; NONE behind the last place. */
+        /** Answers the debt from the party at a place to the next one; NONE behind the last party. */
         private static int pairIn(int row, int place) {
             int party = partyIn(row, place);
             if (party == NONE) {
@@ -712,8 +713,11 @@ public final class PledgeRings {
         int roomAt(int ring) {
             int row = rowAt(ring);
             int room = debts.sumOf(pairIn(row, 0));
-            for (int place = 1; place < MOST_PARTIES && pairIn(row, place) != NONE; place++) {
-                room = Math.min(room, debts.sumOf(pairIn(row, place)));
+            for (int place = 1; place < MOST_PARTIES; place++) {
+                int pair = pairIn(row, place);
+                if (pair != NONE) {
+                    room = Math.min(room, debts.sumOf(pair));
+                }
             }
             return room;
         }
@@ -721,7 +725,7 @@ public final class PledgeRings {
         int savingAt(Book book, int ring, int part) {
             int row = rowAt(ring);
             int cost = 0;
-            for (int place = 0; place < MOST_PARTIES && pairIn(row, place) != NONE; place++) {
+            for (int place = 0; place < MOST_PARTIES; place++) {
                 cost += debts.costOfPart(book, pairIn(row, place), part);
             }
             return cost;
@@ -744,7 +748,7 @@ public final class PledgeRings {
         int releaseAround(Book book, int ring, int part) {
             int cost = savingAt(book, ring, part);
             int row = rowAt(ring);
-            for (int place = 0; place < MOST_PARTIES && pairIn(row, place) != NONE; place++) {
+            for (int place = 0; place < MOST_PARTIES; place++) {
                 debts.releaseFrom(book, pairIn(row, place), part);
             }
             book.discharges++;
@@ -816,7 +820,7 @@ public final class PledgeRings {
             int ways = 0;
             measure(book);
             int end = nearestEnd();
-            // Each way takes one of the excess at least, so there are no more of them than amounts.
+            // Each way takes 1 at least off the excess, and that is at most the sum of all amounts.
             while (ways < MOST_WAYS && end != NONE) {
                 push(book, end);
                 ways++;
