@@ -1,15 +1,7 @@
 import java.util.function.LongSupplier;
 
 /** Facts worked out by hand, for each promise of the document: the ordinary, the edges and wrong inputs. */
-public final class PromisesTest {
-    private static final Class<?> INDEX = IndexOutOfBoundsException.class;
-    private static final Class<?> ARGUMENT = IllegalArgumentException.class;
-    private static final Class<?> STATE = IllegalStateException.class;
-    private static final int NONE = PledgeRings.NONE;
-
-    private static int wrong;
-    private static int checked;
-
+public final class PromisesTest extends Checks {
     public static void main(String[] args) {
         promise1New();
         promise2Begin();
@@ -36,77 +28,16 @@ public final class PromisesTest {
         promise23Append();
         promise24ClearText();
         promise25CarryOut();
-        promise25SyntaxErrors();
         promise26Undo();
         promise27Digest();
-        if (wrong > 0) {
-            System.out.println("PromisesTest: " + wrong + " of " + checked + " answers are wrong");
-            System.exit(1);
-        }
-        System.out.println("PromisesTest: " + checked + " answers are as due");
+        close("PromisesTest");
     }
 
-    private static void due(String call, long got, long want) {
-        checked++;
-        if (got != want) {
-            wrong++;
-            System.out.println(call + " answered " + got + ", due is " + want);
-        }
-    }
-
-    /** Looks also that the call changed nothing. */
+    /** Looks by the digest that the call changed nothing; the tests of the boundaries look at everything. */
     private static void refuses(String call, PledgeRings x, Class<?> want, LongSupplier asked) {
-        checked++;
         long before = x.digest();
-        String got;
-        try {
-            got = "answered " + asked.getAsLong();
-        } catch (RuntimeException e) {
-            got = e.getClass() == want ? "" : "threw " + e.getClass().getName();
-        }
-        if (!got.isEmpty()) {
-            wrong++;
-            System.out.println(call + " " + got + ", due is " + want.getName());
-        }
+        due(call, answer(asked), want.getName());
         due("digest behind " + call, x.digest(), before);
-    }
-
-    private static int carryOut(PledgeRings x, String text) {
-        x.clearText();
-        for (int k = 0; k < text.length(); k++) {
-            x.append(text.charAt(k));
-        }
-        return x.carryOut();
-    }
-
-    private static void dueRing(PledgeRings x, int ring, int... parties) {
-        for (int place = 0; place < 7; place++) {
-            int want = place < parties.length ? parties[place] : NONE;
-            due("ring(" + ring + ", " + place + ")", x.ring(ring, place), want);
-        }
-    }
-
-    private static void duePromise(PledgeRings x, int promise, int... want) {
-        for (int what = 0; what < 8; what++) {
-            due("promiseOf(" + promise + ", " + what + ")", x.promiseOf(promise, what), want[what]);
-        }
-    }
-
-    private static void dueValues(PledgeRings x, int... want) {
-        for (int what = 0; what < 11; what++) {
-            due("value(" + what + ")", x.value(what), want[what]);
-        }
-    }
-
-    /** Two rings that share the debt of 0 to 1: 0 1 with room 4 and 0 1 2 with room 6. */
-    private static PledgeRings twoRings() {
-        PledgeRings x = new PledgeRings();
-        x.promise(0, 1, 5, 2);
-        x.promise(0, 1, 5, 7);
-        x.promise(1, 0, 4, 3);
-        x.promise(1, 2, 6, 1);
-        x.promise(2, 0, 8, 1);
-        return x;
     }
 
     private static void promise1New() {
@@ -299,14 +230,9 @@ public final class PromisesTest {
     private static void promise12Net() {
         PledgeRings x = twoRings();
         x.dispute(0);
-        int[] want = {2, 0, -2, 0};
-        for (int party = 0; party < 4; party++) {
-            due("net(" + party + ")", x.net(party), want[party]);
-        }
+        dueNets(x, 2, 0, -2, 0);
         x.dischargeAll();
-        for (int party = 0; party < 4; party++) {
-            due("net(" + party + ") behind discharging all", x.net(party), want[party]);
-        }
+        dueNets(x, 2, 0, -2, 0);
         x.pay(0, 3);
         due("net(0) behind a payment", x.net(0), 5);
         due("net(1) behind a payment", x.net(1), -3);
@@ -542,68 +468,6 @@ public final class PromisesTest {
         due("100 bytes", carryOut(y, "a;".repeat(50)), 50);
     }
 
-    private static void dueError(String text, int position) {
-        PledgeRings x = new PledgeRings();
-        due("carryOut() of " + text, carryOut(x, text), -10 - position);
-        refuses("undo() behind " + text, x, STATE, x::undo);
-        due("the promises behind " + text, x.value(1), 0);
-        due("the text stays: " + text, x.clearText(), text.length());
-    }
-
-    private static void promise25SyntaxErrors() {
-        dueError("q;", 0);
-        dueError(" a;", 0);
-        dueError(";", 0);
-        dueError("A;", 0);
-        dueError("\u0000", 0);
-        dueError("a", 1);
-        dueError("b:", 1);
-        dueError("a;;", 2);
-        dueError("a; ", 2);
-        dueError("p01:1,1;x", 9);
-        dueError("x;", 1);
-        dueError("xx", 1);
-        dueError("x/", 1);
-        dueError("x5", 2);
-        dueError("x5,", 2);
-        dueError("y12", 3);
-        dueError("y123;", 3);
-        dueError("y007;", 3);
-        dueError("p", 1);
-        dueError("p7", 1);
-        dueError("p/", 1);
-        dueError("p07:", 2);
-        dueError("p0:", 2);
-        dueError("p01", 3);
-        dueError("p012:", 3);
-        dueError("p01;", 3);
-        dueError("p01:", 4);
-        dueError("p01:,", 4);
-        dueError("p01:-1,1;", 4);
-        dueError("p01:1", 5);
-        dueError("p01:1;", 5);
-        dueError("p01:1:", 5);
-        dueError("p01:0", 4);
-        dueError("p01:0000", 4);
-        dueError("p01:0,1;", 4);
-        dueError("p01:0x", 4);
-        dueError("p01:1001", 4);
-        dueError("p01:1001,1;", 4);
-        dueError("p01:9999;", 4);
-        dueError("p01:00001,1;", 8);
-        dueError("p01:10010", 8);
-        dueError("p01:00000", 8);
-        dueError("p01:1000", 8);
-        dueError("p01:1000,", 9);
-        dueError("p01:1,0;", 6);
-        dueError("p01:1,00", 6);
-        dueError("p01:1,;", 6);
-        dueError("p01:1,11;", 7);
-        dueError("p01:1,1", 7);
-        dueError("p01:1,1,", 7);
-        dueError("p01:1,1;p01:0,1;", 12);
-    }
-
     private static void promise26Undo() {
         PledgeRings x = new PledgeRings();
         refuses("undo() of nothing", x, STATE, x::undo);
@@ -637,38 +501,26 @@ public final class PromisesTest {
     }
 
     private static void promise27Digest() {
-        PledgeRings x = new PledgeRings();
-        due("digest() of a new object", x.digest(), digestOf(x, 0, 0));
-        PledgeRings y = twoRings();
-        y.pay(3, 1);
-        y.dispute(3);
-        y.append('p');
-        y.append(0);
-        due("digest()", y.digest(), digestOf(y, 2, 4));
+        due("digest() of a new object", new PledgeRings().digest(), digestOf(PledgeRings::new, 0, 0));
+        PledgeRings y = somewhatChanged();
+        due("digest()", y.digest(), digestOf(PromisesTest::somewhatChanged, 2, 4));
         y.undo();
-        due("digest() behind undo", y.digest(), digestOf(y, 2, 3));
+        due("digest() behind undo", y.digest(), digestOf(() -> undone(somewhatChanged()), 2, 3));
         y.begin(2);
-        due("digest() of two parties", y.digest(), digestOf(y, 2, 4));
+        due("digest() of two parties", y.digest(), digestOf(() -> begun(2), 2, 4));
     }
 
-    private static long digestOf(PledgeRings x, int length, int saved) {
-        long h = 31L * 3701 + length;
-        for (int what = 0; what <= 10; what++) {
-            h = 31 * h + x.value(what);
-        }
-        for (int i = 0; i < x.value(1); i++) {
-            for (int what = 0; what <= 7; what++) {
-                h = 31 * h + x.promiseOf(i, what);
-            }
-        }
-        for (int party = 0; party < x.value(0); party++) {
-            h = 31 * h + x.net(party);
-            for (int other = 0; other < x.value(0); other++) {
-                h = 31 * h + x.debt(party, other);
-            }
-        }
-        h = 31 * h + x.bestRing();
-        h = 31 * h + x.leastCost();
-        return 31 * h + saved;
+    private static PledgeRings somewhatChanged() {
+        PledgeRings x = twoRings();
+        x.pay(3, 1);
+        x.dispute(3);
+        x.append('p');
+        x.append(0);
+        return x;
+    }
+
+    private static PledgeRings undone(PledgeRings x) {
+        x.undo();
+        return x;
     }
 }
