@@ -61,6 +61,21 @@ public final class ChangesBoundsTest extends Sentences {
             due("the first promise", x.promise(1, 0, 4, 4), 0);
             duePromise(x, 0, 1, 0, 4, 4, 0, 4, 0, 0);
         });
+        holds("there are no promises, and all sums and counts are 0.", () -> {
+            PledgeRings x = twoRings();
+            x.pay(1, 1);
+            x.discharge(0, 1);
+            x.dispute(1);
+            x.begin(4);
+            x.promise(1, 0, 4, 4);
+            due("the number of one made where one was before", x.promise(2, 3, 6, 8), 1);
+            duePromise(x, 1, 2, 3, 6, 8, 0, 6, 0, 0);
+            dueValues(x, 4, 2, 2, 0, 10, 64, 0, 0, 0, 0, 10);
+            x.undo();
+            x.undo();
+            x.undo();
+            duePromise(x, 1, 0, 1, 3, 7, 1, 5, 1, 1);
+        });
         holds("Undoable.", () -> {
             undoable("begin(2)", PledgeRings::new, x -> x.begin(2));
             undoable("begin(4), as it was", PledgeRings::new, x -> x.begin(4));

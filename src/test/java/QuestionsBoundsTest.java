@@ -79,6 +79,10 @@ public final class QuestionsBoundsTest extends Sentences {
             x.discharge(0, 3);
             x.pay(1, 1);
             duePromise(x, 1, 0, 1, 0, 7, 0, 5, 2, 3);
+            PledgeRings y = twoRings();
+            y.discharge(0, 1);
+            y.discharge(0, 2);
+            duePromise(y, 1, 0, 1, 2, 7, 0, 5, 0, 3);
         });
         holds("Returns that value.", () -> {
             due("promiseOf(0, 0)", busy().promiseOf(0, 0), 0);
@@ -375,6 +379,21 @@ public final class QuestionsBoundsTest extends Sentences {
             x.promise(0, 1, 5, 1);
             due("of the promise with the greatest rate", x.leastCost(), 5);
         });
+        holds("if any amounts were released", () -> {
+            // The one ring is 1 2 3, with room 3: it saves 57 of 88.
+            PledgeRings x = begun(4);
+            carryOut(x, "p01:2,1;p12:5,1;p02:3,9;p23:3,9;p31:3,9;");
+            due("no amount becomes more", x.leastCost(), 88 - 57);
+            // The one ring is 1 4, with room 3: it saves 33 of 82.
+            PledgeRings y = begun(5);
+            carryOut(y, "p01:2,1;p41:6,2;p12:5,1;p14:3,9;p42:4,9;");
+            due("no amount becomes more, of two ways into one", y.leastCost(), 82 - 33);
+            // Ring 0 3 1 2 saves 23 of 33, and rings 0 2 and 1 3 save 28.
+            PledgeRings z = new PledgeRings();
+            carryOut(z, "p03:1,3;p02:1,1;p12:1,2;p13:1,9;p20:1,9;p31:1,9;");
+            due("by the best ring first", z.costByRings(), 33 - 23);
+            due("by the rings that save most together", z.leastCost(), 33 - 28);
+        });
         holds("from the promises that are not disputed", () -> {
             PledgeRings x = twoPromises(5, 5);
             x.dispute(1);
@@ -431,6 +450,10 @@ public final class QuestionsBoundsTest extends Sentences {
             due("without a disputed one", busy().ringsWithout(3), 1);
             due("without one that is not open", busy().ringsWithout(6), 1);
             due("without one of two of a debt", busy().ringsWithout(0), 1);
+            PledgeRings y = twoRings();
+            y.dispute(0);
+            due("without a disputed one as great as the debt", y.ringsWithout(0), 2);
+            due("without the debt", y.ringsWithout(1), 0);
             PledgeRings x = busy();
             x.pay(0, 5);
             due("without the only open one of a debt", x.ringsWithout(1), 0);

@@ -235,20 +235,15 @@ public final class TextBoundsTest extends Sentences {
             String text = "p01:1000,9;x12;y3;b;a;";
             for (int k = 0; k <= text.length(); k++) {
                 String begun = text.substring(0, k);
-                boolean isWhole = begun.isEmpty() || begun.endsWith(";");
-                due("carryOut() of " + begun, carried(begun) < 0, isWhole ? NONE : k);
+                if (begun.isEmpty() || begun.endsWith(";")) {
+                    due("carryOut() of " + begun, Math.min(0, carried(begun)), 0);
+                } else {
+                    dueError(begun, k);
+                }
             }
             dueError("a;".repeat(49) + "b", 99);
             dueError("a;".repeat(49) + "x1", 100);
         });
-    }
-
-    private static void due(String call, boolean isRefused, int position) {
-        String text = call.substring(call.lastIndexOf(' ') + 1);
-        due(call + " is refused", isRefused ? 1 : 0, position == NONE ? 0 : 1);
-        if (position != NONE) {
-            dueError(text, position);
-        }
     }
 
     private static void numbersOutOfRange() {
