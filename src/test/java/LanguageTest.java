@@ -15,7 +15,7 @@ import java.util.regex.Pattern;
 import java.util.stream.Collectors;
 
 /** Looks at the face of the class, at the rules of LANGUAGE.md that a machine can see, and at what calls make. */
-public final class LanguageTest {
+public final class LanguageTest extends Checks {
     private static final String I = "IndexOutOfBoundsException";
     private static final String A = "IllegalArgumentException";
     private static final String S = "IllegalStateException";
@@ -26,6 +26,7 @@ public final class LanguageTest {
         theFace();
         theClassesInside();
         theSource();
+        theHeadings();
         theRoom();
         if (wrong > 0) {
             System.out.println("LanguageTest: " + wrong + " faults");
@@ -135,6 +136,25 @@ public final class LanguageTest {
         theLengths(Arrays.asList(source.split("\n")));
     }
 
+    /** What the document says to stand ahead of calls must stand there, and those calls below it, in its order. */
+    private static void theHeadings() throws Exception {
+        String document = Files.readString(Path.of("../shared/DOC.md"));
+        String source = Files.readString(Path.of("src/main/java/PledgeRings.java"));
+        StringBuilder due = new StringBuilder();
+        Matcher said = Pattern.compile("(?m)^Ahead of the calls (.*) the interface says: (---- .*)\\.$").matcher(document);
+        while (said.find()) {
+            due.append(said.group(2)).append(": ").append(said.group(1).replaceAll("[`,]", "")).append('\n');
+        }
+        StringBuilder found = new StringBuilder();
+        Matcher line = Pattern.compile("(?m)^    (?:// (---- .*)|public (?:int|long) (\\w+)\\(.*)$").matcher(source);
+        while (line.find()) {
+            boolean isHeading = line.group(1) != null;
+            String before = found.isEmpty() ? "" : "\n";
+            found.append(isHeading ? before + line.group(1) + ":" : " " + line.group(2));
+        }
+        must(!due.isEmpty() && (found + "\n").equals(due.toString()), "the headings are\n" + found + "\ndue are\n" + due);
+    }
+
     /** A method begins with an open brace four or eight signs in, and ends with one alone there. */
     private static void theLengths(List<String> lines) {
         for (String indent : new String[] {"    ", "        "}) {
@@ -153,16 +173,6 @@ public final class LanguageTest {
         }
     }
 
-    private static PledgeRings eachToEachOfSeven() {
-        PledgeRings x = new PledgeRings();
-        x.begin(7);
-        for (int n = 0; n < 40; n++) {
-            int to = n % 6;
-            x.promise(n / 6, to < n / 6 ? to : to + 1, 1000 - 17 * n, 1 + n % 9);
-        }
-        return x;
-    }
-
     /** An object and 500 of its dearest calls make some books alone, far below the room of a run. */
     private static void theRoom() {
         com.sun.management.ThreadMXBean bean = (com.sun.management.ThreadMXBean) ManagementFactory.getThreadMXBean();
@@ -175,8 +185,8 @@ public final class LanguageTest {
     }
 
     private static void theCalls() {
-        PledgeRings x = eachToEachOfSeven();
-        "a;b;x1;y1;p65:1,1;".chars().forEach(x::append);
+        PledgeRings x = forty();
+        write(x, "a;b;x1;y1;p65:1,1;");
         for (int n = 0; n < 50; n++) {
             x.digest();
             x.costByRings();
